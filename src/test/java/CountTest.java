@@ -65,9 +65,18 @@ public final class CountTest {
         Check.due("count(6) of a pair around itself", 3, kept.count(6));
         Check.due("count(6) is no change", 3, kept.count(6));
         // A busy thunk leads to nothing: its environment is kept only by those who need it.
-        LazyMachine busy = Check.loaded("let 1 let let 2 let 3 plus v0 4 v0");
+        LazyMachine busy = Check.loaded("let 1 let 7 v0");
         busy.run(3);
-        Check.due("count(6), asked", 3, busy.count(6));
+        Check.due("count(6), at the number in its environment", 3, busy.count(6));
+        busy.run(1);
+        Check.due("count(6), back with the number", 1, busy.count(6));
+        // LEFT and TEST keep the environment for what is still to come.
+        LazyMachine left = Check.loaded("let 1 plus 2 v0");
+        left.run(3);
+        Check.due("count(6) under LEFT", 2, left.count(6));
+        LazyMachine test = Check.loaded("let 1 zero 2 v0 v0");
+        test.run(3);
+        Check.due("count(6) under TEST", 2, test.count(6));
         // The right number keeps no environment.
         LazyMachine right = Check.loaded("let 1 plus 2 v0");
         right.run(5);

@@ -46,6 +46,8 @@ public final class StopTest {
         // A part that is busy: both the frame and the pair stay.
         stops("fix first pair v0 1", 4, 3, 1, 2, 3, -1);
         stops("fix second pair 1 v0", 4, 3, 1, 2, 3, -1);
+        // A thunk that waited is busy, too, and wants itself.
+        stops("first fix pair first v0 1", 4, 7, 2, 2, 4, -1);
     }
 
     /**
