@@ -4,6 +4,9 @@ final class Check {
     static final int STATE = 1_000_000_001;
     static final int ARGUMENT = 1_000_000_002;
 
+    private static final int COUNTS = 9;
+    private static final int RESULTS = 3;
+
     interface Call {
         int answer();
     }
@@ -12,17 +15,23 @@ final class Check {
         "var", "lam", "app", "num", "plus", "minus", "times", "less", "zero", "fix", "let", "pair", "first", "second"
     };
 
+    private static String sentence = "";
     private static int wrong = 0;
     private static int asked = 0;
 
     private Check() {
     }
 
+    /** The document's words that the answers behind it are about: told with each that is not as due. */
+    static void sentence(String words) {
+        sentence = "\"" + words + "\": ";
+    }
+
     static void due(String call, int want, int got) {
         asked++;
         if (want != got) {
             wrong++;
-            System.out.println(call + " answered " + told(got) + ", due is " + told(want));
+            System.out.println(sentence + call + " answered " + told(got) + ", due is " + told(want));
         }
     }
 
@@ -98,6 +107,42 @@ final class Check {
         for (int what = 0; what < wants.length; what++) {
             due(where + ": count(" + what + ")", wants[what], machine.count(what));
         }
+    }
+
+    /** A call that is refused: it answers so, or throws, and leaves everything as it was. */
+    static void refused(String call, int want, LazyMachine machine, Call made) {
+        int[] before = seen(machine);
+        due(call, want, made);
+        same(call, before, seen(machine));
+    }
+
+    /** The next step can't be done: the status is all that it changes. */
+    static void stops(String where, int status, LazyMachine machine) {
+        int[] before = seen(machine);
+        due(where + ", ahead of it: count(2)", 1, before[2]);
+        due(where + ": run(1)", status, () -> machine.run(1));
+        before[2] = status;
+        same(where, before, seen(machine));
+        refused(where + ", stopped: run(5000)", status, machine, () -> machine.run(5000));
+    }
+
+    private static void same(String where, int[] before, int[] behind) {
+        for (int i = 0; i < before.length; i++) {
+            String asked = i < COUNTS ? "count(" + i + ")" : "result(" + (i - COUNTS) + ")";
+            due(where + ", behind it: " + asked, before[i], behind[i]);
+        }
+    }
+
+    private static int[] seen(LazyMachine machine) {
+        int[] answers = new int[COUNTS + RESULTS];
+        for (int what = 0; what < COUNTS; what++) {
+            answers[what] = machine.count(what);
+        }
+        for (int what = 0; what < RESULTS; what++) {
+            int it = what;
+            answers[COUNTS + what] = outcome(() -> machine.result(it));
+        }
+        return answers;
     }
 
     static String repeated(String words, int times) {

@@ -50,18 +50,8 @@ public final class StopTest {
         stops("first fix pair first v0 1", 4, 7, 2, 2, 4, -1);
     }
 
-    /**
-     * A term that comes to its last words with levels + firsts frames and 2 * levels + 4 + lets cells: each
-     * level leaves a frame LEFT whose environment keeps a link and its thunk, done with a number; each LET
-     * keeps a link, and each FIRST a frame.
-     */
-    private static String deep(int levels, int lets, int firsts, String last) {
-        return "app fix lam zero v0 " + Check.repeated("let v0", lets) + Check.repeated("first", firsts) + last
-            + " plus app v1 minus v0 1 0 " + levels;
-    }
-
     private static void deepStops(int levels, int lets, int firsts, String last, int status, int frames, int cells) {
-        String term = deep(levels, lets, firsts, last);
+        String term = Deep.words(levels, lets, firsts, last);
         LazyMachine machine = stops(term, status);
         Check.due(term + ": frames", frames, machine.count(5));
         Check.due(term + ": cells", cells, machine.count(6));
@@ -80,7 +70,7 @@ public final class StopTest {
             deepStops(20, 0, 180, last, 5, 200, 44);
         }
         // The thunk that waits is not busy when its frame has no room.
-        String waits = "let plus 1 2 " + deep(20, 0, 180, "v2");
+        String waits = "let plus 1 2 " + Deep.words(20, 0, 180, "v2");
         LazyMachine asked = stops(waits, 5);
         Check.due("frames", 200, asked.count(5));
         Check.due("forced", 22, asked.count(4));
@@ -89,13 +79,13 @@ public final class StopTest {
         // With one frame less each goes on, and is wrong only later: the 200th frame has room.
         String[] wrongLater = {"app 1 2", "first 1", "plus lam v0 1", "zero lam v0 1 1"};
         for (String last : wrongLater) {
-            LazyMachine machine = stops(deep(20, 0, 179, last), 3);
+            LazyMachine machine = stops(Deep.words(20, 0, 179, last), 3);
             Check.due(last + ": frames", 200, machine.count(5));
             Check.due(last + ": most", 200, machine.count(8));
         }
         String[] doneLater = {"plus 1 2", "zero 1 2 3", "fix 1", "first pair 1 2"};
         for (String last : doneLater) {
-            LazyMachine machine = stops(deep(20, 0, 179, last), 3);
+            LazyMachine machine = stops(Deep.words(20, 0, 179, last), 3);
             Check.due(last + ": frames", 199, machine.count(5));
             Check.due(last + ": most", 200, machine.count(8));
         }
@@ -145,7 +135,7 @@ public final class StopTest {
         // A function is wanted and there is no cell for the link.
         deepStops(125, 1, 10, "app 1 2", 3, 136, 256);
         // Busy, with 200 frames: the hole comes ahead of the frame.
-        LazyMachine busy = stops("fix " + deep(20, 0, 179, "v2"), 4);
+        LazyMachine busy = stops("fix " + Deep.words(20, 0, 179, "v2"), 4);
         Check.due("frames", 200, busy.count(5));
     }
 }
