@@ -12,6 +12,7 @@ public final class CallEdgeTest {
         putFull();
         loadNothing();
         loadBadly();
+        loadAgain();
         restartWithoutTerm();
         runWithoutTerm();
         runLengths();
@@ -34,19 +35,21 @@ public final class CallEdgeTest {
         Check.end();
     }
 
-    /** Every call that wants a term, without one. */
+    /** Every call that wants a term, without one: each throws, and all of them change nothing. */
     private static void wantsTerm(String where, LazyMachine machine) {
-        Check.refused(where + ": restart()", Check.STATE, machine, () -> Check.restart(machine));
-        int[] lengths = {-1, 0, 1, 5000, 5001};
+        int waiting = machine.count(0);
+        Check.due(where + ": restart()", Check.STATE, Check.restart(machine));
+        int[] lengths = {LEAST, -1, 0, 1, 5000, 5001, MOST};
         for (int n : lengths) {
-            Check.refused(where + ": run(" + n + ")", Check.STATE, machine, () -> machine.run(n));
+            Check.due(where + ": run(" + n + ")", Check.STATE, () -> machine.run(n));
         }
         for (int what = -1; what <= 3; what++) {
             int it = what;
-            Check.refused(where + ": result(" + what + ")", Check.STATE, machine, () -> machine.result(it));
-            Check.refused(where + ": into(" + what + ")", Check.STATE, machine, () -> machine.into(it));
-            Check.refused(where + ": apply(" + what + ")", Check.STATE, machine, () -> machine.apply(it));
+            Check.due(where + ": result(" + what + ")", Check.STATE, () -> machine.result(it));
+            Check.due(where + ": into(" + what + ")", Check.STATE, () -> machine.into(it));
+            Check.due(where + ": apply(" + what + ")", Check.STATE, () -> machine.apply(it));
         }
+        Check.counts(where, machine, waiting, 0, 0, 0, 0, 0, 0, -1, 0, -1);
     }
 
     private static void newObject() {
@@ -145,6 +148,25 @@ public final class CallEdgeTest {
             Check.due("load()", 0, machine.load());
             Check.due("run(2)", 2, machine.run(2));
             Check.due("result(1)", 6, machine.result(1));
+        }
+    }
+
+    private static void loadAgain() {
+        Check.sentence("The nodes become the machine's term, and go; it is at its beginning");
+        // Terms of every sort, good and bad ones, one behind the other in the same object.
+        String[] terms = {
+            "plus minus 9 2 times 3 less 1 2", "zero 0 zero 1 2 3 4", "let 5 app lam plus v0 v1 v0", "pair 1", "zero 1 2",
+            "first second pair 1 pair 6 7", "app fix lam zero v0 8 app v1 minus v0 1 3", "lam v1", "zero 1 2 zero 0 9 3", "plus 1 2 3",
+            "second pair first pair 1 2 plus 4 6", "zero plus 1 minus 2 3 11 12", "let let 3 times v0 v0 plus v0 3"
+        };
+        int[] faults = {0, 0, 0, 3, 4, 0, 0, 2, 0, 4, 0, 0, 0};
+        int[] results = {10, 3, 10, 0, 0, 6, 8, 0, 9, 0, 10, 11, 12};
+        LazyMachine machine = new LazyMachine();
+        for (int i = 0; i < terms.length; i++) {
+            Check.put(machine, terms[i]);
+            Check.due("load() of " + terms[i], faults[i], machine.load());
+            Check.due(terms[i] + ": run(99)", faults[i] == 0 ? 2 : Check.STATE, () -> machine.run(99));
+            Check.due(terms[i] + ": result(1)", faults[i] == 0 ? results[i] : Check.STATE, () -> machine.result(1));
         }
     }
 

@@ -13,6 +13,7 @@ public final class CellEdgeTest {
         oneMore();
         noneWanted();
         byArgument();
+        allCellsServe();
         usedAgain();
         reached();
         emptyAgain();
@@ -76,6 +77,31 @@ public final class CellEdgeTest {
         Check.due("back with the function", 1, link.run(2));
         Check.due("cells", 256, link.count(6));
         Check.stops("a 257th cell", 6, link);
+    }
+
+    /** The last words fill the heap, and what lies in its last cells is used then, with the environment around it. */
+    private static void serves(int wanted, String last, int want) {
+        int cells = 256 - wanted;
+        LazyMachine machine = Deep.at((cells - 4) / 2, cells, last);
+        int most = 0;
+        for (int i = 0; i < 2 * wanted; i++) {
+            Check.due(last + ": run(1)", 1, machine.run(1));
+            most = Math.max(most, machine.count(6));
+        }
+        Check.due(last + ": the most cells", 256, most);
+        Check.due(last + ": run(5000)", 2, machine.run(5000));
+        Check.due(last + ": result(1)", want, () -> machine.result(1));
+    }
+
+    private static void allCellsServe() {
+        Check.sentence("HEAP: at most 256 CELLS");
+        serves(2, "first pair plus v0 3 plus v0 4", 3);
+        serves(2, "second pair plus v0 3 plus v0 4", 4);
+        serves(2, "let plus v0 4 plus v0 v0", 8);
+        serves(2, "app lam plus v0 v1 plus v0 4", 4);
+        serves(2, "fix plus v1 6", 6);
+        serves(4, "app fix lam zero v0 9 7 plus v0 0", 9);
+        serves(4, "let pair plus v0 1 plus v0 2 plus first v0 second v0", 3);
     }
 
     private static void usedAgain() {

@@ -3,14 +3,16 @@ import java.util.TreeMap;
 
 /** Runs of calls, made with a fixed seed, on LazyMachine and on the plain model: every answer is the same. */
 public final class ModelTest {
-    private static final int RUNS = 1500;
-    private static final int CALLS = 100;
+    private static final int RUNS = 6000;
+    // What an object answers to later calls is free.
+    private static final int CALLS = 512;
 
     private final Random random;
     private final LazyMachine machine = new LazyMachine();
     private final PlainModel model = new PlainModel();
     private final StringBuilder calls = new StringBuilder();
     private boolean same = true;
+    private int made;
 
     private ModelTest(int seed) {
         random = new Random(seed);
@@ -20,9 +22,9 @@ public final class ModelTest {
         TreeMap<Integer, Integer> statuses = new TreeMap<>();
         for (int seed = 0; seed < RUNS; seed++) {
             ModelTest test = new ModelTest(seed);
-            for (int i = 0; i < CALLS && test.same; i++) {
+            while (test.made < CALLS && test.same) {
                 test.call();
-                statuses.merge(test.machine.count(2), 1, Integer::sum);
+                statuses.merge(test.model.count(2), 1, Integer::sum);
             }
         }
         System.out.println("statuses seen: " + statuses);
@@ -33,16 +35,18 @@ public final class ModelTest {
     }
 
     private void both(String call, Check.Call one, Check.Call other) {
+        if (made == CALLS) {
+            return;
+        }
+        made++;
         calls.append(call).append("; ");
-        compare(call, Check.outcome(other), Check.outcome(one));
-    }
-
-    private void compare(String what, int want, int got) {
+        int want = Check.outcome(other);
+        int got = Check.outcome(one);
         if (same && want != got) {
             same = false;
             System.out.println(calls);
         }
-        Check.due(what, want, got);
+        Check.due(call, want, got);
     }
 
     private void put(int sort, int x) {
@@ -51,7 +55,7 @@ public final class ModelTest {
 
     private void call() {
         int kind = random.nextInt(12);
-        if (machine.count(2) == 0 || kind == 0) {
+        if (model.count(2) == 0 || kind == 0) {
             newTerm();
         } else if (kind == 1) {
             both("restart()", () -> {
@@ -69,11 +73,12 @@ public final class ModelTest {
             both("run(" + n + ")", () -> machine.run(n), () -> model.run(n));
         }
         for (int what = -1; what <= 9; what++) {
-            compare("count(" + what + ")", model.count(what), machine.count(what));
+            int it = what;
+            both("count(" + what + ")", () -> machine.count(it), () -> model.count(it));
         }
         for (int what = -1; what <= 3; what++) {
             int it = what;
-            compare("result(" + what + ")", Check.outcome(() -> model.result(it)), Check.outcome(() -> machine.result(it)));
+            both("result(" + what + ")", () -> machine.result(it), () -> model.result(it));
         }
     }
 

@@ -30,7 +30,7 @@ public final class RestartTest {
         Check.due("run(" + steps + ") of " + term, status, machine.run(steps));
         Check.due("restart()", 0, Check.restart(machine));
         Check.counts("restarted: " + term, machine, 0, fresh.count(1), 1, 0, 0, 0, 0, 0, 0);
-        for (int i = 0; i < 200; i++) {
+        for (int i = 0; i < 40; i++) {
             Check.due("run(1)", fresh.run(1), machine.run(1));
             for (int what = 0; what <= 8; what++) {
                 Check.due(term + ": count(" + what + ") behind step " + i, fresh.count(what), machine.count(what));
