@@ -156,8 +156,9 @@ public final class CallEdgeTest {
         // Terms of every sort, good and bad ones, one behind the other in the same object.
         String[] terms = {
             "plus minus 9 2 times 3 less 1 2", "zero 0 zero 1 2 3 4", "let 5 app lam plus v0 v1 v0", "pair 1", "zero 1 2",
-            "first second pair 1 pair 6 7", "app fix lam zero v0 8 app v1 minus v0 1 3", "lam v1", "zero 1 2 zero 0 9 3", "plus 1 2 3",
-            "second pair first pair 1 2 plus 4 6", "zero plus 1 minus 2 3 11 12", "let let 3 times v0 v0 plus v0 3"
+            "first second pair 1 pair 6 7", "app fix lam zero v0 8 app v1 minus v0 1 3", "lam v1",
+            "zero 1 2 zero 0 9 3", "plus 1 2 3", "second pair first pair 1 2 plus 4 6", "zero plus 1 minus 2 3 11 12",
+            "let let 3 times v0 v0 plus v0 3"
         };
         int[] faults = {0, 0, 0, 3, 4, 0, 0, 2, 0, 4, 0, 0, 0};
         int[] results = {10, 3, 10, 0, 0, 6, 8, 0, 9, 0, 10, 11, 12};

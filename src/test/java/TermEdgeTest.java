@@ -28,8 +28,9 @@ public final class TermEdgeTest {
         Check.put(machine, term);
         int nodes = machine.count(0);
         Check.due("load() of " + term, want, machine.load());
-        Check.counts("load() of " + term, machine, 0, want == 0 ? nodes : 0, want == 0 ? 1 : 0, 0, 0, 0, 0, want == 0 ? 0 : -1, 0);
-        Check.due("run(0) of " + term, want == 0 ? 1 : Check.STATE, () -> machine.run(0));
+        boolean good = want == 0;
+        Check.counts("load() of " + term, machine, 0, good ? nodes : 0, good ? 1 : 0, 0, 0, 0, 0, good ? 0 : -1, 0);
+        Check.due("run(0) of " + term, good ? 1 : Check.STATE, () -> machine.run(0));
     }
 
     private static void parts() {
@@ -48,7 +49,7 @@ public final class TermEdgeTest {
     }
 
     private static void scopes() {
-        Check.sentence("1 LAMBDA of one, in which it binds; 9 FIX of one, in which it binds; 10 LET of two, in the second of which it binds");
+        Check.sentence("LAMBDA of one, in which it binds; FIX of one, in which it binds; LET of two, in the second of which");
         for (int sort = 1; sort < SORTS.length; sort++) {
             for (int part = 0; part < PARTS[sort]; part++) {
                 boolean binds = sort == LAMBDA || sort == FIX || sort == LET && part == 1;
