@@ -178,7 +178,8 @@ public final class LazyMachine {
             case 5:
                 return pile.size();
             case 6:
-                return markReached();
+                markRoots();
+                return heap.spreadMarks();
             case 7:
                 return status == NO_TERM || back ? NONE : node;
             case 8:
@@ -423,13 +424,14 @@ public final class LazyMachine {
 
     private boolean hasRoomFor(int cells) {
         if (heap.free() < cells) {
-            markReached();
+            markRoots();
+            heap.spreadMarks();
             heap.freeUnreached();
         }
         return heap.free() >= cells;
     }
 
-    private int markReached() {
+    private void markRoots() {
         heap.beginMarks();
         if (back) {
             heap.reachFrom(valueSort, valueFirst, valueSecond);
@@ -437,7 +439,6 @@ public final class LazyMachine {
             heap.reach(environment);
         }
         pile.reachAll(heap);
-        return heap.spreadMarks();
     }
 
     /** Nodes in the order in which they came, and where the parts of each begin. */
